@@ -258,7 +258,7 @@ public final class PromiseTest {
         due("5 no guesses", pile.count(6) + pile.count(8) + pile.count(9), 0);
         ReturnPile deep = new ReturnPile();
         callTimes(deep, 40);
-        due("5 longest at once", deep.raise(40), 0);
+        due("5 forty at once", deep.raise(40), 0);
     }
 
     // ---- promise 6
