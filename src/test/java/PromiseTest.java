@@ -1,16 +1,6 @@
 /** For each promise of the document: ordinary inputs, the edges that it names, and wrong inputs. */
-public final class PromiseTest {
-    private static final int INVALID = ReturnPile.INVALID_ARGUMENT;
-    private static final int ILLEGAL = ReturnPile.ILLEGAL_STATE;
-    private static final int FULL = ReturnPile.CAPACITY_EXCEEDED;
-    private static final int NONE = ReturnPile.NONE;
-    private static final int[] FAR = {Integer.MIN_VALUE, -1000, 1000, Integer.MAX_VALUE};
-
+public final class PromiseTest extends PileChecks {
     private PromiseTest() {
-    }
-
-    private static void due(String what, long got, long want) {
-        Dues.due(what, got, want);
     }
 
     public static void main(String[] args) {
@@ -44,66 +34,6 @@ public final class PromiseTest {
         fullOfSteps();
         looksThatChangeNothing();
         Dues.end();
-    }
-
-    private static ReturnPile sized(int size) {
-        ReturnPile pile = new ReturnPile();
-        pile.begin(size);
-        return pile;
-    }
-
-    /** Makes calls with the addresses from 100 on. */
-    private static void callTimes(ReturnPile pile, int times) {
-        for (int i = 0; i < times; i++) {
-            pile.call(i % 16, 100 + i);
-        }
-    }
-
-    private static void write(ReturnPile pile, String text) {
-        pile.clearText();
-        for (int i = 0; i < text.length(); i++) {
-            pile.append(text.charAt(i));
-        }
-    }
-
-    private static int runText(ReturnPile pile, String text) {
-        write(pile, text);
-        return pile.run();
-    }
-
-    /** All counts in a row, as one text. */
-    private static String countsOf(ReturnPile pile) {
-        StringBuilder counts = new StringBuilder();
-        for (int what = 0; what <= 17; what++) {
-            counts.append(pile.count(what)).append(' ');
-        }
-        return counts.toString();
-    }
-
-    /** A good deal of the state, without history and text, as one text; 52 calls. */
-    private static String lookOf(ReturnPile pile) {
-        StringBuilder look = new StringBuilder();
-        for (int what = 0; what <= 17; what++) {
-            look.append(what == 15 || what == 16 ? "" : pile.count(what) + " ");
-        }
-        for (int depth = 0; depth < 3; depth++) {
-            for (int what = 0; what < 5; what++) {
-                look.append(pile.frame(depth, what)).append(' ');
-            }
-        }
-        for (int i = 0; i < 2; i++) {
-            for (int what = 0; what < 6; what++) {
-                look.append(pile.confession(i, what)).append(' ');
-            }
-        }
-        for (int what = 0; what < 6; what++) {
-            look.append(pile.slot(what % 2, what / 2)).append(' ');
-        }
-        return look.append(pile.named(2)).append(' ').append(pile.worst()).append(' ').append(pile.bestSize()).toString();
-    }
-
-    private static void same(String what, String got, String want) {
-        due(what + ": " + got + " is " + want, got.equals(want) ? 1 : 0, 1);
     }
 
     // ---- promise 1
