@@ -27,6 +27,12 @@ abstract class PileChecks {
         }
     }
 
+    static ReturnPile withCalls(int size, int times) {
+        ReturnPile pile = sized(size);
+        callTimes(pile, times);
+        return pile;
+    }
+
     static void returnTimes(ReturnPile pile, int times) {
         for (int i = 0; i < times; i++) {
             pile.ret();

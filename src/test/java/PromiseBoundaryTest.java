@@ -22,6 +22,7 @@ public final class PromiseBoundaryTest extends PileChecks {
         framesByDepth();
         slotsOfEachSize();
         confessionsByIndex();
+        confessionsOfBothKinds();
         stepsOfConfessions();
         namedByDroppedConfessions();
         namedCalls();
@@ -63,12 +64,6 @@ public final class PromiseBoundaryTest extends PileChecks {
 
     private static ReturnPile fortyFrames() {
         return withCalls(8, 40);
-    }
-
-    private static ReturnPile withCalls(int size, int times) {
-        ReturnPile pile = sized(size);
-        callTimes(pile, times);
-        return pile;
     }
 
     private static void rangesOfSteps() {
@@ -322,6 +317,32 @@ public final class PromiseBoundaryTest extends PileChecks {
         }
     }
 
+    /** Fourteen confessions, in turn of the kinds 1 and 2, each with numbers of its own. */
+    private static void confessionsOfBothKinds() {
+        Dues.sentence("0 its kind, 1 its culprit, 2 the call of the frame that returned, 3 the address that was guessed, 4 the return address");
+        ReturnPile pile = sized(2);
+        int[][] told = new int[14][];
+        for (int i = 0; i < 14; i++) {
+            int kind = i % 2 + 1;
+            int call = pile.call(0, 10 * i);
+            int next = pile.call(0, 10 * i + 1);
+            if (kind == 1) {
+                next = pile.call(0, 10 * i + 2);
+                returnTimes(pile, 2);
+            } else {
+                pile.raise(1);
+            }
+            told[i] = new int[] {kind, next, call, 10 * i + 3 - kind, 10 * i, pile.count(1)};
+            due("return " + i, pile.ret(), kind + 1);
+        }
+        due("kept", pile.count(10), 12);
+        for (int index = 0; index < 12; index++) {
+            for (int what = 0; what < 6; what++) {
+                due("confession " + index + ", " + what, pile.confession(index, what), told[13 - index][what]);
+            }
+        }
+    }
+
     private static void stepsOfConfessions() {
         Dues.sentence("5 the step of the return, from 0");
         ReturnPile early = sized(2);
@@ -378,6 +399,19 @@ public final class PromiseBoundaryTest extends PileChecks {
         due("the next", pile.named(100), INVALID);
         due("call 199", pile.named(199), INVALID);
         due("call 200", pile.named(200), INVALID);
+        ReturnPile most = sized(2);
+        for (int i = 0; i < 4; i++) {
+            callTimes(most, 40);
+            most.raise(40);
+        }
+        callTimes(most, 36);
+        due("steps", most.count(1), 200);
+        due("as many calls as there can be", most.count(2), 196);
+        due("the last one", most.named(195), 0);
+        due("none behind it", most.named(196), INVALID);
+        most.undo();
+        most.ret();
+        due("the last one is undone", most.named(195), INVALID);
     }
 
     private static void namedMost() {

@@ -33,6 +33,7 @@ public final class TermsBoundaryTest extends PileChecks {
         fiveStates();
         stateIsAllButTextAndHistory();
         beginKeepsTheHistory();
+        beginMakesAllAsAtFirst();
         actionsThatChangeNothing();
         noActions();
         sixthStateDropsTheOldest();
@@ -42,12 +43,6 @@ public final class TermsBoundaryTest extends PileChecks {
 
     private static int around(int number, int size) {
         return Math.floorMod(number, size);
-    }
-
-    private static ReturnPile withCalls(int size, int times) {
-        ReturnPile pile = sized(size);
-        callTimes(pile, times);
-        return pile;
     }
 
     // ---- frames
@@ -624,6 +619,25 @@ public final class TermsBoundaryTest extends PileChecks {
             pile.undo();
         }
         due("size ahead of the last five", pile.count(11), 3);
+    }
+
+    private static void beginMakesAllAsAtFirst() {
+        Dues.sentence("Begins anew, with another size of the pile: all is as at first");
+        for (int size = 2; size <= 16; size++) {
+            ReturnPile pile = withCalls(2, 40);
+            tailTimes(pile, 3);
+            returnTimes(pile, 30);
+            pile.raise(1);
+            due("begin", pile.begin(size), 2);
+            same("counts", countsOf(pile), "0 0 0 0 0 0 0 0 0 0 0 " + size + " " + (size - 1) + " 0 0 5 0 0 ");
+            same("slots", slotsOf(pile), "top " + (size - 1) + ":" + " -9 -9 0".repeat(size));
+            due("frame", pile.frame(0, 0), INVALID);
+            due("confession", pile.confession(0, 0), NONE);
+            due("call", pile.named(0), INVALID);
+            due("worst", pile.worst(), NONE);
+            due("misses", pile.missesWith(2), 0);
+            due("best size", pile.bestSize(), 2);
+        }
     }
 
     private static void actionsThatChangeNothing() {
