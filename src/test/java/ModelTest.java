@@ -1,6 +1,7 @@
 /** Long runs of mixed calls, each answer compared with that of the slow model. */
 public final class ModelTest {
     private static final int RUNS = 1500;
+    // What an object answers later is free.
     private static final int CALLS = 512;
     private static final String SIGNS = "cccctttrrrrrxx@@@@00112345679     s\t";
 
@@ -9,6 +10,7 @@ public final class ModelTest {
     private ReturnPile pile = new ReturnPile();
     private Model model = new Model();
     private final int manner;
+    private int callsLeft = CALLS;
 
     private ModelTest(int manner) {
         this.manner = manner;
@@ -37,9 +39,8 @@ public final class ModelTest {
     public static void main(String[] args) {
         for (int run = 0; run < RUNS && Dues.wrong() < 20; run++) {
             ModelTest test = new ModelTest(run);
-            int calls = 0;
-            while (calls < CALLS) {
-                calls += pick(5) < 3 ? test.change("run " + run) : test.look("run " + run);
+            while (test.callsLeft > 0) {
+                test.callsLeft -= pick(5) < 3 ? test.change("run " + run) : test.look("run " + run);
             }
         }
         Dues.end();
@@ -79,14 +80,14 @@ public final class ModelTest {
 
     /** Takes back some actions at once, now and then with the beginning of what is there. */
     private int undo(String run) {
-        int times = 1 + pick(5);
+        int times = Math.min(callsLeft, 1 + pick(5));
         for (int i = 0; i < times; i++) {
             Dues.due(run + " undo", pile.undo(), model.undo());
         }
         return times;
     }
 
-    /** Puts a text together, of steps or of any signs, and runs it. */
+    /** Puts a text together, of steps or of any signs, and runs it, if so many calls are left. */
     private int text(String run, int length, boolean ofSteps) {
         StringBuilder text = new StringBuilder();
         while (text.length() < length) {
@@ -95,6 +96,9 @@ public final class ModelTest {
             } else {
                 text.append(SIGNS.charAt(pick(SIGNS.length())));
             }
+        }
+        if (text.length() + 2 > callsLeft) {
+            return 0;
         }
         for (int i = 0; i < text.length(); i++) {
             Dues.due(run + " append", pile.append(text.charAt(i)), model.append(text.charAt(i)));
